@@ -6,6 +6,8 @@ import java.nio.file.Files;
 import java.nio.file.Path;
 import java.util.Arrays;
 import java.util.IdentityHashMap;
+import java.util.Map;
+import java.util.TreeMap;
 import java.util.TreeSet;
 import java.util.regex.Matcher;
 import java.util.regex.Pattern;
@@ -89,6 +91,49 @@ public final class FaceAndRules {
     }
   }
 
+  /** Each method as "Class.name", with those that it calls; the names of fields and parameters tell whose they are. */
+  private static Map<String, TreeSet<String>> callsByMethod() throws Exception {
+    String code = Files.readString(Path.of("src/main/java/FloodCells.java")).replaceAll("(?s)/\\*.*?\\*/", "").replaceAll("//[^\n]*", "");
+    Map<String, TreeSet<String>> bodies = new TreeMap<>();
+    String owner = "FloodCells", method = null;
+    for (String line : code.split("\n")) {
+      Matcher inside = Pattern.compile(" {4}private static final class (\\w+) \\{").matcher(line);
+      Matcher head = Pattern.compile(" {4,8}(?:public |private |static )*(?:int|void|boolean) (\\w+)\\([^=;]*\\) \\{").matcher(line);
+      if (inside.matches()) { owner = inside.group(1); method = null; continue; }
+      if (head.matches()) { method = owner + "." + head.group(1); bodies.put(method, new TreeSet<>()); continue; }
+      if (method == null) continue;
+      Matcher call = Pattern.compile("(?:\\b(\\w+)\\.)?\\b(\\w+)\\(").matcher(line);
+      while (call.find()) bodies.get(method).add((call.group(1) == null ? owner : ownerOf(call.group(1))) + "." + call.group(2));
+    }
+    return bodies;
+  }
+
+  private static String ownerOf(String name) {
+    return name.equals("trial") || name.equals("other") ? "Flood" : Character.toUpperCase(name.charAt(0)) + name.substring(1);
+  }
+
+  private static int depth(String method, Map<String, TreeSet<String>> calls, int open) {
+    if (open > 50) throw new IllegalStateException(method + " calls itself");
+    int most = 0;
+    for (String called : calls.get(method)) {
+      String outer = "FloodCells" + called.substring(called.indexOf('.'));
+      String known = calls.containsKey(called) ? called : calls.containsKey(outer) ? outer : null;
+      if (known != null) most = Math.max(most, depth(known, calls, open + 1));
+    }
+    return most + 1;
+  }
+
+  /** Calls go at most eight deep, and none is a recursion. */
+  private static void depths() throws Exception {
+    Map<String, TreeSet<String>> calls = callsByMethod();
+    int declared = FloodCells.class.getDeclaredMethods().length;
+    for (Class<?> c : FloodCells.class.getDeclaredClasses()) declared += c.getDeclaredMethods().length;
+    must(calls.size() == declared, "each method is read from the source: " + calls.size() + " of " + declared);
+    int deepest = 0;
+    for (String m : calls.keySet()) deepest = Math.max(deepest, depth(m, calls, 0));
+    must(deepest > 4 && deepest <= 8, "calls go at most eight deep, go " + deepest);
+  }
+
   private static long elements(Object o, IdentityHashMap<Object, Boolean> met) throws Exception {
     if (o == null || met.put(o, true) != null) return 0;
     if (o.getClass().isArray()) return Array.getLength(o);
@@ -147,6 +192,7 @@ public final class FaceAndRules {
     face();
     classesInside();
     source();
+    depths();
     room();
     System.out.println(wrong == 0 ? "the face and the rules hold" : wrong + " are not so");
     if (wrong != 0) System.exit(1);
